@@ -295,7 +295,7 @@ public final class LettersEliminated {
         }
         grid.clear(d, 0);
         chain.layMultiples(grid, d, p);
-        grid.eliminate(p);
+        grid.expand(p);
         return grid.outcome[0];
     }
 
@@ -639,7 +639,7 @@ public final class LettersEliminated {
 
     private void solve(int one, int other, int letter, int table) {
         grid.fill(now.polys[one], now.polys[other], letter, table, now.modulus);
-        grid.eliminate(now.modulus);
+        grid.expand(now.modulus);
     }
 
     private void divideAt(int one, int other, int letter, int v) {
@@ -1151,20 +1151,21 @@ public final class LettersEliminated {
         static final int SYLVESTER = 0;
         static final int BEZOUT = 1;
         private static final int MOST_ROWS = 2 * MOST_POWER;
-        /** No cell, no minor and no determinant has more than power 32: 8 times 4, or 4 times 8. */
+        private static final int CELL_WIDTH = 2 * MOST_POWER + 1;
+        /** No minor has more than power 32: 8 rows of 4, or 4 rows of 8. */
         private static final int WIDTH = 33;
 
         final int[] outcome = new int[MOST_RESULT_POWER + 1];
-        private final int[] cells = new int[MOST_ROWS * MOST_ROWS * WIDTH];
-        private final int[] crossed = new int[2 * WIDTH];
+        private final int[] cells = new int[MOST_ROWS * MOST_ROWS * CELL_WIDTH];
+        /** The sets of columns are bits. */
+        private final int[] minors = new int[WIDTH << MOST_ROWS];
+        /** The degree of each minor, -1 of one that is 0. */
+        private final int[] tops = new int[1 << MOST_ROWS];
         private int size;
-        /** The greatest power that a cell may have at first. */
+        /** The greatest power that a cell may have. */
         private int span;
         private int degreeOfOne;
         private int degreeOfOther;
-        private int divisorBase;
-        private int divisorDegree;
-        private int divisorInverse;
 
         static int sizeOf(Poly one, Poly other, int letter, int table) {
             int m = one.degreeIn(letter);
@@ -1173,7 +1174,7 @@ public final class LettersEliminated {
         }
 
         private static int baseOf(int r, int c) {
-            return (r * MOST_ROWS + c) * WIDTH;
+            return (r * MOST_ROWS + c) * CELL_WIDTH;
         }
 
         void clear(int newSize, int newSpan) {
@@ -1235,116 +1236,57 @@ public final class LettersEliminated {
         }
 
         /**
-         * Bareiss's way: each step's cells are minors of the table, so that the pivot before divides them
-         * without a rest, and no power grows beyond that of a determinant.
+         * The minor of a set of columns is that of the first rows, as many as it has columns: expanded along
+         * its last row it needs minors of smaller sets alone, and no division.
          */
-        void eliminate(int p) {
+        void expand(int p) {
             Arrays.fill(outcome, 0);
-            if (size == 0) {
-                outcome[0] = 1;
-                return;
+            minors[0] = 1;
+            tops[0] = 0;
+            int all = (1 << size) - 1;
+            for (int set = 1; set <= all; set++) {
+                expandSet(set, p);
+            }
+            for (int power = 0; power <= tops[all]; power++) {
+                outcome[power] = minors[WIDTH * all + power];
+            }
+        }
+
+        private void expandSet(int set, int p) {
+            int base = WIDTH * set;
+            int row = Integer.bitCount(set) - 1;
+            int reach = Math.min((row + 1) * span, WIDTH - 1);
+            for (int power = 0; power <= reach; power++) {
+                minors[base + power] = 0;
             }
             int sign = 1;
-            for (int step = 0; step < size - 1; step++) {
-                int pivotRow = findPivotRow(step);
-                if (pivotRow < 0) {
-                    return;
-                }
-                if (pivotRow != step) {
-                    swapRows(step, pivotRow);
+            for (int c = size - 1; c >= 0; c--) {
+                if ((set >> c & 1) != 0) {
+                    addMultiple(base, baseOf(row, c), set ^ 1 << c, sign);
                     sign = -sign;
                 }
-                crossAll(step, p);
             }
-            int base = baseOf(size - 1, size - 1);
-            for (int power = 0; power < WIDTH; power++) {
-                outcome[power] = Math.floorMod(sign * cells[base + power], p);
-            }
-        }
-
-        private int findPivotRow(int step) {
-            for (int r = step; r < size; r++) {
-                if (degreeAt(baseOf(r, step)) >= 0) {
-                    return r;
-                }
-            }
-            return -1;
-        }
-
-        private int degreeAt(int base) {
-            for (int power = WIDTH - 1; power >= 0; power--) {
-                if (cells[base + power] != 0) {
-                    return power;
-                }
-            }
-            return -1;
-        }
-
-        private void swapRows(int r, int s) {
-            int from = baseOf(r, 0);
-            int to = baseOf(s, 0);
-            for (int place = 0; place < MOST_ROWS * WIDTH; place++) {
-                int kept = cells[from + place];
-                cells[from + place] = cells[to + place];
-                cells[to + place] = kept;
-            }
-        }
-
-        private void crossAll(int step, int p) {
-            if (step > 0) {
-                divisorBase = baseOf(step - 1, step - 1);
-                divisorDegree = Math.max(0, degreeAt(divisorBase));
-                divisorInverse = Numbers.inverse(cells[divisorBase + divisorDegree], p);
-            }
-            for (int r = step + 1; r < size; r++) {
-                for (int c = step + 1; c < size; c++) {
-                    cross(step, r, c, p);
-                    if (step > 0) {
-                        divideCrossed(baseOf(r, c), p);
-                    } else {
-                        System.arraycopy(crossed, 0, cells, baseOf(r, c), WIDTH);
-                    }
+            tops[set] = -1;
+            for (int power = 0; power <= reach; power++) {
+                int number = minors[base + power];
+                if (number != 0) {
+                    number = Math.floorMod(number, p);
+                    minors[base + power] = number;
+                    tops[set] = number != 0 ? power : tops[set];
                 }
             }
         }
 
-        private void cross(int step, int r, int c, int p) {
-            int reach = Math.min((step + 1) * span, WIDTH - 1);
-            Arrays.fill(crossed, 0);
-            addCrossed(baseOf(step, step), baseOf(r, c), 1, reach);
-            addCrossed(baseOf(r, step), baseOf(step, c), -1, reach);
-            for (int power = 0; power < crossed.length; power++) {
-                crossed[power] = Math.floorMod(crossed[power], p);
-            }
-        }
-
-        private void addCrossed(int one, int other, int sign, int reach) {
-            for (int a = 0; a <= reach; a++) {
-                int times = sign * cells[one + a];
+        private void addMultiple(int target, int cell, int rest, int sign) {
+            int source = WIDTH * rest;
+            int top = tops[rest];
+            for (int a = 0; a <= span; a++) {
+                int times = sign * cells[cell + a];
                 if (times == 0) {
                     continue;
                 }
-                for (int b = 0; b <= reach; b++) {
-                    crossed[a + b] += times * cells[other + b];
-                }
-            }
-        }
-
-        private void divideCrossed(int target, int p) {
-            for (int power = 0; power < WIDTH; power++) {
-                cells[target + power] = 0;
-            }
-            for (int power = crossed.length - 1; power >= divisorDegree; power--) {
-                if (crossed[power] == 0) {
-                    continue;
-                }
-                int low = power - divisorDegree;
-                int times = crossed[power] * divisorInverse % p;
-                if (low < WIDTH) {
-                    cells[target + low] = times;
-                }
-                for (int b = 0; b <= divisorDegree; b++) {
-                    crossed[low + b] = Math.floorMod(crossed[low + b] - times * cells[divisorBase + b], p);
+                for (int b = 0; b <= top; b++) {
+                    minors[target + a + b] += times * minors[source + b];
                 }
             }
         }
