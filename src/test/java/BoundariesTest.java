@@ -372,6 +372,9 @@ public final class BoundariesTest {
             }
         }
         due("power 9", -6, y.entry(0, 1, 0, 1, 0, 0, 9));
+        LettersEliminated below = of("x+1", "x+2");
+        due("2 less 1", 1, below.entry(0, 1, 0, 1, 0, 0, 0));
+        due("1 less 2", 6, below.entry(1, 0, 0, 1, 0, 0, 0));
     }
 
     private static void atNumbers() {
@@ -504,6 +507,9 @@ public final class BoundariesTest {
         corners("1+xy+x^2y^2+x^4y^4", 0, 0, 44);
         corners("x^4+x^2y^2+y^4", 0, 4, 40);
         corners("x^2y+x^4y^2", 0, 21, 42);
+        corners("x^4y^3+x^4y^4", 0, 43, 44);
+        corners("1+y", 0, 0, 1);
+        corners("1+x", 0, 0, 10);
         says("from the one of least i (of like ones of least j) on");
         corners("xy^3+xy+x^3y^2", 4, 11, 32, 13);
         corners("xy^4+x^2+x^3y^4", 8, 14, 20, 34);
@@ -573,6 +579,11 @@ public final class BoundariesTest {
         due("3 x y^3", 3, x.coefficient(2, 1, 3));
         due("6 x^2", 6, x.coefficient(2, 2, 0));
         due("9 y", 2, x.coefficient(2, 0, 1));
+        x.turn(2, 3, 9);
+        x.drop();
+        due("its number again", 2, x.product(1, 1));
+        due("nothing is left of the dropped one", 3, x.of(2, 4));
+        due("plain again", 0, 10 * x.of(2, 0) + x.of(2, 1));
         says("-3 a TERM of it would have a power above 4");
         for (int one = 0; one <= 4; one++) {
             for (int other = 0; other <= 4; other++) {
@@ -913,6 +924,26 @@ public final class BoundariesTest {
             due("no more of " + steps, -3, x.undo());
             due("refused once", 1, x.count(13));
         }
+        LettersEliminated two = by(31, "0", "0");
+        for (int n = 0; n < 19; n++) {
+            two.change(n % 2, n % 5, n % 3, n + 1);
+        }
+        for (int n = 18; n >= 3; n--) {
+            due("told by the step " + n, n + 1, two.coefficient(n % 2, n % 5, n % 3));
+            due("undo of " + n, n - 3, two.undo());
+            due("untold", 0, two.coefficient(n % 2, n % 5, n % 3));
+        }
+        due("the first three stay, of 0", 2, two.of(0, 4));
+        due("the first three stay, of 1", 1, two.of(1, 4));
+        LettersEliminated turned = of("x");
+        for (int n = 0; n < 16; n++) {
+            due("was", n == 0 ? 0 : 10 * ((n - 1) % 6) + (3 * n + 6) % 10, turned.turn(0, n % 6, (3 * n + 9) % 10));
+        }
+        for (int n = 15; n >= 0; n--) {
+            due("undo of turn " + n, n, turned.undo());
+            due("kind and figure ahead of it", n == 0 ? 0 : 10 * ((n - 1) % 6) + (3 * n + 6) % 10,
+                10 * turned.of(0, 0) + turned.of(0, 1));
+        }
         says("each that isn't refused counts, also if all stays as it was");
         LettersEliminated x = of("x", "y");
         x.change(0, 1, 0, 1);
@@ -1093,6 +1124,7 @@ public final class BoundariesTest {
         due("none to drop", -3, x.drop());
         due("none to undo", -3, x.undo());
         due("no image", -3, x.on());
+        due("no lists", -11, x.put(0, 0, 0));
         says("A letter (0 .. 255) comes: how many there are. -4; -6 (255; 72, too)");
         due("0", 1, x.letter(0));
         due("255", 2, x.letter(255));
