@@ -1,7 +1,7 @@
 import java.util.Arrays;
 
 /**
- * Every choice of arguments at and beyond the document's bounds, for each call that can be refused: the answer is
+ * For each call that can be refused, all ways to put values at and beyond the document's bounds together: the answer is
  * the first refusal that fits in the order in which the promise tells them, how many there were of it grows by one
  * (of -11, -13, -14 not), and nothing else changes: not the polynomials, what can be undone, the image, the lists,
  * the letters. A choice that no refusal fits is taken.
@@ -115,7 +115,7 @@ public final class RefusalsTest {
             (x, a) -> x.rows(a[0], a[1], a[2], a[3]), a -> table(a[0], a[1], a[2], a[3]));
         all("degree", ordinary, new int[][] {WHO, WHO, LETTER, TABLE},
             (x, a) -> x.degree(a[0], a[1], a[2], a[3]), a -> table(a[0], a[1], a[2], a[3]));
-        all("entry", ordinary, new int[][] {WHO, {0, 1, 2, 3}, {0, 1, 2}, {0, 1, 2}, {-1, 0, 2, 3, 4}, {-1, 1, 2, 3}, {-1, 8, 9}},
+        all("entry", ordinary, new int[][] {WHO, WHO, LETTER, TABLE, {-1, 0, 1, 3, 4}, {-1, 0, 2, 3}, {-1, 0, 8, 9}},
             (x, a) -> x.entry(a[0], a[1], a[2], a[3], a[4], a[5], a[6]), RefusalsTest::entryDue);
         all("result", ordinary, new int[][] {WHO, WHO, LETTER, TABLE, {LEAST, -1, 0, 40, 41, MOST}},
             (x, a) -> x.result(a[0], a[1], a[2], a[3], a[4]),
@@ -179,7 +179,7 @@ public final class RefusalsTest {
             a -> noList(a[0]) ? -1 : place(a[0], a[1]));
         allLong("look", ordinary, new int[][] {LIST, {LEAST, -1, 0, 2, 3, MOST}}, (x, a) -> x.look(a[0], a[1]),
             a -> noList(a[0]) ? -1 : place(a[0], a[1]));
-        all("lays", ordinary, new int[][] {LIST, PLACE, {0, 1, 2, 3}, {-1, 1, 2}, {-1, 0, 1, 2}, {-1, 0, 1, 2}},
+        all("lays", ordinary, new int[][] {LIST, PLACE, WHO, WHO, LETTER, TABLE},
             (x, a) -> x.lays(a[0], a[1], a[2], a[3], a[4], a[5]),
             a -> noList(a[0]) ? -1 : first(table(a[2], a[3], a[4], a[5]), place(a[0], a[1])));
         all("judge", ordinary, new int[][] {LIST, WHO, WHO, LETTER, TABLE},
@@ -432,8 +432,8 @@ public final class RefusalsTest {
             seen[n++] = x.of(poly, 0);
             seen[n++] = x.of(poly, 1);
             seen[n++] = x.of(poly, 4);
-            seen[n++] = x.lots(poly, 50, 1, 1);
-            seen[n++] = x.lots(poly, 50, 2, 1);
+            seen[n++] = x.lots(poly, 20, 1, 1);
+            seen[n++] = x.lots(poly, 20, 2, 1);
         }
         return n;
     }
